@@ -342,7 +342,6 @@ public final class CanErrors {
 
         void comeBack() {
             off = false;
-            let = false;
             sendingErrors = 0;
             receivingErrors = 0;
             flagBits = 0;
