@@ -5,10 +5,6 @@ public final class ManagerTest {
         firstAskingCounts();
         longWaitFromSixthTime();
         hundredGoodFramesForget();
-        goodFramesMustComeInARow();
-        flagEventsMayComeBetween();
-        listeningNodesCountToo();
-        offBreaksTheRow();
         Check.finish();
     }
 
@@ -52,117 +48,19 @@ public final class ManagerTest {
     }
 
     private static void longWaitFromSixthTime() {
-        CanErrors bus = Check.withNodes(1);
-        offTimes(bus, 5, 0);
-        fastOff(bus);
+        CanErrors bus = Check.backAgain(5, 0);
+        Check.switchOffFast(bus);
         Check.comeBack(bus, 1000, 100);
-        fastOff(bus);
+        Check.switchOffFast(bus);
         Check.comeBack(bus, 2000, 100);
     }
 
     private static void hundredGoodFramesForget() {
-        CanErrors bus = Check.withNodes(1);
-        offTimes(bus, 5, 0);
+        CanErrors bus = Check.backAgain(5, 0);
         Check.repeat(bus, 50, 0, true);
         Check.repeat(bus, 50, 0, false);
-        offTimes(bus, 5, 1000);
-        fastOff(bus);
+        Check.backAgain(bus, 5, 1000);
+        Check.switchOffFast(bus);
         Check.comeBack(bus, 2000, 100);
-
-        bus = Check.withNodes(1);
-        offTimes(bus, 5, 0);
-        Check.repeat(bus, 99, 0, true);
-        fastOff(bus);
-        Check.comeBack(bus, 2000, 100);
-
-        bus = Check.withNodes(1);
-        offTimes(bus, 5, 0);
-        Check.repeat(bus, 120, 0, false);
-        bus.event(1, 1, true);
-        fastOff(bus);
-        Check.comeBack(bus, 2000, 10);
-    }
-
-    private static void goodFramesMustComeInARow() {
-        int[] errors = {1, 2, 3, 4, 5, 9, 10};
-        for (int kind : errors) {
-            CanErrors bus = Check.withNodes(1);
-            offTimes(bus, 5, 0);
-            Check.repeat(bus, 99, 0, false);
-            bus.event(1, kind, false);
-            Check.repeat(bus, 99, 0, false);
-            fastOff(bus);
-            Check.comeBack(bus, 2000, 100);
-        }
-    }
-
-    private static void flagEventsMayComeBetween() {
-        CanErrors bus = Check.withNodes(1);
-        offTimes(bus, 5, 0);
-        Check.repeat(bus, 98, 0, false);
-        bus.event(1, 6, false);
-        bus.event(1, 7, true);
-        bus.event(1, 8, false);
-        Check.repeat(bus, 1, 0, false);
-        bus.two(1, 6, 8);
-        Check.repeat(bus, 1, 0, false);
-        fastOff(bus);
-        Check.comeBack(bus, 2000, 10);
-    }
-
-    private static void listeningNodesCountToo() {
-        CanErrors bus = Check.withNodes(1);
-        offTimes(bus, 5, 0);
-        Check.repeat(bus, 40, 0, false);
-        bus.listen(1, true);
-        Check.repeat(bus, 40, 0, false);
-        bus.event(1, 0, true);
-        bus.listen(1, false);
-        Check.repeat(bus, 20, 0, false);
-        fastOff(bus);
-        Check.comeBack(bus, 2000, 10);
-
-        bus = Check.withNodes(1);
-        offTimes(bus, 5, 0);
-        Check.repeat(bus, 99, 0, false);
-        bus.listen(1, true);
-        bus.event(1, 0, true);
-        bus.event(1, 3, false);
-        Check.repeat(bus, 99, 0, false);
-        bus.listen(1, false);
-        fastOff(bus);
-        Check.comeBack(bus, 2000, 100);
-    }
-
-    private static void offBreaksTheRow() {
-        CanErrors bus = Check.withNodes(1);
-        offTimes(bus, 4, 0);
-        Check.repeat(bus, 60, 0, false);
-        offByFlagEventsAlone(bus);
-        Check.comeBack(bus, 1000, 10);
-        Check.repeat(bus, 60, 0, false);
-        offByFlagEventsAlone(bus);
-        Check.comeBack(bus, 2000, 100);
-    }
-
-    private static void offTimes(CanErrors bus, int times, long from) {
-        for (int i = 0; i < times; i++) {
-            fastOff(bus);
-            Check.comeBack(bus, from + i * 20L, 10);
-        }
-    }
-
-    /** Two counts of 8 a call, since an object is used for at most 512 calls. */
-    private static void fastOff(CanErrors bus) {
-        bus.event(1, 1, true);
-        offByFlagEventsAlone(bus);
-    }
-
-    private static void offByFlagEventsAlone(CanErrors bus) {
-        int state = bus.event(1, 7, true);
-        for (int i = 0; i < 16 && state != 2; i++) {
-            state = bus.two(1, 7, 8);
-        }
-        Check.due("off", state, 2);
     }
 }
